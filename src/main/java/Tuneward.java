@@ -804,7 +804,7 @@ public final class Tuneward {
         }
 
         int leapSung(int ahead, int note) {
-            return Math.abs(sung[note] - sung[ahead]);
+            return isLaid(ahead) && isLaid(note) ? Math.abs(sung[note] - sung[ahead]) : 0;
         }
 
         int leapAsked(int ahead, int note) {
@@ -848,8 +848,12 @@ public final class Tuneward {
             return NONE;
         }
 
+        private static int rowAt(int note, int place) {
+            return (note * WIDTH + place) * KEYS;
+        }
+
         private static int cell(int note, int place, int key) {
-            return (note * WIDTH + place) * KEYS + key + HIGHEST_KEY;
+            return rowAt(note, place) + key + HIGHEST_KEY;
         }
 
         private int offWith(int note, int place, int key) {
@@ -879,17 +883,19 @@ public final class Tuneward {
         }
 
         private void fillAlike(int note, int place, int cost) {
-            for (int key = -HIGHEST_KEY; key <= HIGHEST_KEY; key++) {
-                costs[cell(note, place, key)] = cost;
+            int here = rowAt(note, place);
+            for (int at = 0; at < KEYS; at++) {
+                costs[here + at] = cost;
             }
         }
 
         // Turning the key by one more costs the same each time, so that looking at the keys
         // beside each other, up and then down, finds the best of all of them.
         private void fillLaidCosts(int note, int place) {
+            int behind = rowAt(note + 1, place + 1);
+            int off = offWith(note, place, -HIGHEST_KEY);
             for (int at = 0; at < KEYS; at++) {
-                int key = at - HIGHEST_KEY;
-                int laid = costOn(note, place, key) + costs[cell(note + 1, place + 1, key)];
+                int laid = Math.abs(off - KEY_CENTS * at) / 10 + costs[behind + at];
                 laidCosts[at] = at > 0 ? Math.min(laid, laidCosts[at - 1] + KEY_COST) : laid;
             }
             for (int at = KEYS - 2; at >= 0; at--) {
@@ -898,10 +904,12 @@ public final class Tuneward {
         }
 
         private void fillCells(int note, int place) {
-            for (int key = -HIGHEST_KEY; key <= HIGHEST_KEY; key++) {
-                int missed = MISS_COST + Math.min(costs[cell(note + 1, place, key)],
-                        costs[cell(note, place + 1, key)]);
-                costs[cell(note, place, key)] = Math.min(missed, laidCosts[key + HIGHEST_KEY]);
+            int here = rowAt(note, place);
+            int noteMissed = rowAt(note + 1, place);
+            int placeMissed = rowAt(note, place + 1);
+            for (int at = 0; at < KEYS; at++) {
+                int missed = Math.min(costs[noteMissed + at], costs[placeMissed + at]);
+                costs[here + at] = Math.min(MISS_COST + missed, laidCosts[at]);
             }
         }
 

@@ -28,6 +28,7 @@ public final class PromiseTests {
         kinds();
         leapKinds();
         keysLost();
+        longPaths();
         songSung();
         leaning();
         voice();
@@ -140,8 +141,6 @@ public final class PromiseTests {
         same("3 three beats two", hearing(0, 50, 90, 0, 50, 90).period(), 3);
         same("3 a lag needs twice as many", hearing(0, 50, 90, 0, 50).period(), 2);
         same("3 the least of like lags", hearing(7, 7, 7, 7, 7, 7, 7, 7, 7, 7).period(), 2);
-        // Lags 2 and 3 of six samples have the distances 100 * sum / 4 and 100 * sum / 3.
-        same("3 slack of five no more", hearing(0, 0, 0, 0, 0, 1).period(), 2);
         int[] wave = new int[48];
         for (int i = 0; i < 48; i++) {
             wave[i] = i % 24 == 23 ? 99 : i % 24 == 5 ? -99 : i % 24 * 3;
@@ -150,33 +149,39 @@ public final class PromiseTests {
         slackOfPeriods();
     }
 
-    // The distance of lag 2 is 100 * (3 * small + step) / many, that of lag 3 another one: rows are
-    // sought in which both lie on either side of the edge.
+    // Rows are sought in which the distance of a lag lies just on the edge of what is enough, or
+    // beyond it by one.
     private static void slackOfPeriods() {
         int on = 0;
         int beyond = 0;
         Numbers numbers = new Numbers(3);
-        for (int run = 0; run < 20000 && (on < 5 || beyond < 5); run++) {
-            int[] row = new int[6];
-            for (int i = 0; i < 6; i++) {
+        for (int run = 0; run < 200000 && (on < 5 || beyond < 5); run++) {
+            int[] row = new int[numbers.between(6, 11)];
+            for (int i = 0; i < row.length; i++) {
                 row[i] = numbers.between(-9, 9);
             }
-            int two = 100 * (gap(row, 0, 2) + gap(row, 1, 3) + gap(row, 2, 4) + gap(row, 3, 5)) / 4;
-            int three = 100 * (gap(row, 0, 3) + gap(row, 1, 4) + gap(row, 2, 5)) / 3;
-            int over = two - (three + three / 10 + 5);
+            int least = Integer.MAX_VALUE;
+            for (int lag = 2; 2 * lag <= row.length; lag++) {
+                least = Math.min(least, distance(row, lag));
+            }
+            int over = distance(row, 2) - (least + least / 10 + 5);
             if (over == 0) {
                 on++;
                 same("3 on the edge", hearing(row).period(), 2);
-            } else if (over >= 1 && over <= 9) {
+            } else if (over == 1) {
                 beyond++;
-                same("3 beyond the edge", hearing(row).period(), 3);
+                CHECKS.holds("3 beyond the edge", hearing(row).period() > 2);
             }
         }
         CHECKS.holds("3 both sides of the edge were met", on > 0 && beyond > 0);
     }
 
-    private static int gap(int[] row, int at, int other) {
-        return Math.abs(row[at] - row[other]);
+    private static int distance(int[] row, int lag) {
+        int sum = 0;
+        for (int i = lag; i < row.length; i++) {
+            sum += Math.abs(row[i] - row[i - lag]);
+        }
+        return 100 * sum / (row.length - lag);
     }
 
     private static void frames() {
@@ -264,11 +269,20 @@ public final class PromiseTests {
         raw(room, 5040, 5020, 5000, 4960);
         same("10 four without their ends, the lower one", room.pitchOf(0), 5000);
         room.hush();
+        raw(room, 5040, 5030, 5035, 5040);
+        same("10 four, of both in the middle alone", room.pitchOf(0), 5030);
+        room.hush();
         raw(room, 5000, 5030, 5035, 5020, 5010, 5050, 5060);
         same("10 seven without one at each end", room.pitchOf(0), 5030);
         room.hush();
         raw(room, 5000, 5040, 5080, 5090, 5085, 5070, 5110, 5150);
         same("10 eight without two at each end", room.pitchOf(0), 5080);
+        room.hush();
+        raw(room, 5000, 5040, 5080, 5085, 5120, 5160);
+        same("10 six, a fourth of them is one", room.pitchOf(0), 5080);
+        room.hush();
+        raw(room, 5160, 5120, 5130, 5095, 5080);
+        same("10 five, a fourth of them is one", room.pitchOf(0), 5120);
         thrown("10 below", INDEX, () -> room.pitchOf(-1));
         thrown("10 above", INDEX, () -> room.pitchOf(1));
         room.hush();
@@ -523,6 +537,33 @@ public final class PromiseTests {
         same("24 from a wrong first note", wrong.lost(0), 1);
     }
 
+    private static void longPaths() {
+        int[] steps = {0, 2, 4, 5, 7, 9, 11, 12, 14, 16, 17, 19, 21, 23, 24, 22};
+        Tuneward room = withSong(steps);
+        for (int i = 0; i < 16; i++) {
+            tone(room, 4800 + 100 * steps[i] + (i < 8 ? 0 : 25), 3, 90);
+        }
+        raw(room, 3000, 3000, 3000);
+        same("7 seventeen tones", room.notes(), 16);
+        same("18 the longest", room.cost(0), 3);
+        same("19 the longest", room.laidOn(0, 15), 15);
+        same("20 the longest", room.keyOf(0, 15), 1);
+        same("23 the longest", room.drift(0), 1);
+        room.range(0, 9999);
+        same("22 the longest", kinds(room, 0, 16), "oooooooooooooooo");
+        same("43 the longest", room.isTrue(), true);
+        Tuneward other = withSong(0, 0, 0, 0, 0, 0, 0, 0, 0, 0, 0, 0, 0, 0, 0, 0);
+        for (int i = 0; i < 16; i++) {
+            tone(other, i == 0 ? 0 : 9900, 3, 90);
+        }
+        same("18 nearly none laid", other.cost(0), 30 * 30);
+        same("19 the only one laid", other.laidOn(0, 0), 0);
+        same("19 the last of many on none", other.laidOn(0, 15), -1);
+        same("18 one on sixteen", sing(withSong(steps), 5000).cost(0), 450);
+        same("18 sixteen on one", sing(withSong(0), 3000, 4000, 3000, 4000, 3000, 4000, 3000, 4000,
+                3000, 4000, 3000, 4000, 3000, 4000, 3000, 4000).cost(0), 450);
+    }
+
     private static void songSung() {
         Tuneward room = new Tuneward();
         thrown("25 nothing", MISSING, () -> room.sung());
@@ -537,6 +578,12 @@ public final class PromiseTests {
         same("25 the lowest of like ones", room.sung(), 2);
         room.hush();
         thrown("25 no notes", MISSING, () -> room.sung());
+        Tuneward one = sing(withSong(7), 6000);
+        same("25 a note on a note", one.sung(), 0);
+        addSong(one, 8);
+        addSong(one, 7, 8);
+        addSong(one);
+        same("25 the first of like ones", one.sung(), 0);
     }
 
     private static void leaning() {
@@ -688,6 +735,22 @@ public final class PromiseTests {
         }
     }
 
+    /** A room in which the interval 0 was sung well and then badly so often. */
+    private static Tuneward withFirsts(int good, int bad) {
+        Tuneward room = sing(withSong(0, 0), 5000, 5000);
+        for (int i = 0; i < good; i++) {
+            room.move(0);
+            room.learn(0);
+        }
+        room.hush();
+        sing(room, 5000, 5021);
+        for (int i = 0; i < bad; i++) {
+            room.move(0);
+            room.learn(0);
+        }
+        return room;
+    }
+
     private static void nextInterval() {
         Tuneward room = new Tuneward();
         same("32 at first", room.next(), 0);
@@ -696,6 +759,8 @@ public final class PromiseTests {
         addSong(room, 0, 2);
         teach(room, 0, 0, 65);
         same("32 below 70", room.next(), 0);
+        same("32 sixty-nine", withFirsts(11, 2).mastery(0), 69);
+        same("32 sixty-nine is below", withFirsts(11, 2).next(), 0);
         teach(room, 0, 0, 70);
         same("32 seventy", room.next(), 1);
         teach(room, 1, 1, 70);
@@ -708,10 +773,11 @@ public final class PromiseTests {
         addSong(all, 0, 0, 1, 3, 6, 10, 15);
         addSong(all, 0, 6, 13, 21);
         addSong(all, 0, 9, 19);
-        addSong(all, 0, 11, 23);
-        int[][] sung = {{0, 0, 1, 3, 6, 10, 15}, {0, 6, 13, 21}, {0, 9, 19}, {0, 11, 23}};
-        int[] next = {6, 9, 11};
-        for (int song = 0; song < 4; song++) {
+        addSong(all, 0, 11);
+        addSong(all, 0, 12);
+        int[][] sung = {{0, 0, 1, 3, 6, 10, 15}, {0, 6, 13, 21}, {0, 9, 19}, {0, 11}, {0, 12}};
+        int[] next = {6, 9, 11, 12};
+        for (int song = 0; song < 5; song++) {
             all.hush();
             for (int step : sung[song]) {
                 tone(all, 4800 + 100 * step, 3, 90);
@@ -720,7 +786,7 @@ public final class PromiseTests {
                 all.move(0);
                 all.learn(song);
             }
-            if (song < 3) {
+            if (song < 4) {
                 same("32 after song " + song, all.next(), next[song]);
             }
         }
@@ -876,6 +942,13 @@ public final class PromiseTests {
         addSong(later, 0, 7, 0);
         addSong(later, 2, 3, 5, 8);
         same("39 an earlier one that is nearer", later.parent(2), 0);
+        Tuneward falling = new Tuneward();
+        addSong(falling, 0, 5, 9, 1);
+        addSong(falling, 0, 1, 3, 6);
+        addSong(falling, 0, 1, 3, 9);
+        addSong(falling, 0, 1, 9, 3);
+        addSong(falling, 2, 3, 5, 7);
+        same("39 the latest of those that are least", falling.parent(4), 2);
         Tuneward insert = new Tuneward();
         addSong(insert, 0, 1, 3, 6, 10);
         addSong(insert, 0, 9, 10, 12, 15, 19);
@@ -899,6 +972,7 @@ public final class PromiseTests {
         addSong(room, 0, 2, 4);
         thrown("40 no notes", UNSUPPORTED, () -> room.share(1));
         thrown("41 none", ArithmeticException.class, () -> room.meanPitch());
+        same("41 one", sing(new Tuneward(), 6001).meanPitch(), 6001.0);
         sing(room, 6000, 6200, 6425);
         thrown("40 an empty song", UNSUPPORTED, () -> room.share(0));
         thrown("40 below", INDEX, () -> room.share(-1));

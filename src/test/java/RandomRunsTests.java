@@ -168,6 +168,8 @@ public final class RandomRunsTests {
         int base = numbers.oneOf(4700, 5000, 5500, 6000, 6100);
         int key = 0;
         int rough = numbers.oneOf(0, 9, 20, 29, 60, 150);
+        int longest = numbers.oneOf(3, 4, 6, 9);
+        int shortest = numbers.oneOf(2, 3, 3);
         for (int i = 0; i < steps.length; i++) {
             key += numbers.oneOf(0, 0, 0, 25, -25, 50, 75, -75, 100, -12);
             if (numbers.onceIn(8)) {
@@ -175,7 +177,7 @@ public final class RandomRunsTests {
             }
             int extra = numbers.onceIn(10) ? numbers.between(-400, 400) : 0;
             phrase(base + 100 * steps[i] + key + extra + numbers.between(-rough, rough),
-                    numbers.between(2, numbers.oneOf(3, 4, 6, 9)), numbers.oneOf(0, 3, 20));
+                    numbers.between(shortest, longest), numbers.oneOf(0, 3, 20));
             if (numbers.onceIn(3)) {
                 call("frame", numbers.upTo(9999), numbers.oneOf(0, 9, 30), numbers.oneOf(0, 49));
             }

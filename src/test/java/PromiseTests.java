@@ -2,15 +2,8 @@ import java.util.ArrayList;
 import java.util.List;
 
 /** For each promise of the document: ordinary inputs, its edges and wrong inputs. */
-public final class PromiseTests {
+public final class PromiseTests extends Rooms {
     private static final Checks CHECKS = new Checks("PromiseTests");
-    private static final Class<IllegalArgumentException> ARGUMENT = IllegalArgumentException.class;
-    private static final Class<IllegalStateException> STATE = IllegalStateException.class;
-    private static final Class<IndexOutOfBoundsException> INDEX = IndexOutOfBoundsException.class;
-    private static final Class<UnsupportedOperationException> UNSUPPORTED =
-            UnsupportedOperationException.class;
-    private static final Class<java.util.NoSuchElementException> MISSING =
-            java.util.NoSuchElementException.class;
 
     public static void main(String[] args) {
         newObject();
@@ -54,41 +47,6 @@ public final class PromiseTests {
         CHECKS.thrown(what, want, call);
     }
 
-    /** A room with one song of these steps, each of one beat. */
-    private static Tuneward withSong(int... steps) {
-        Tuneward room = new Tuneward();
-        addSong(room, steps);
-        return room;
-    }
-
-    private static void addSong(Tuneward room, int... steps) {
-        int song = room.song();
-        for (int step : steps) {
-            room.add(song, step, 1);
-        }
-    }
-
-    /** Sings notes of these pitches, of three frames each, with silence behind each. */
-    private static Tuneward sing(Tuneward room, int... pitches) {
-        for (int pitch : pitches) {
-            tone(room, pitch, 3, 90);
-        }
-        return room;
-    }
-
-    private static void tone(Tuneward room, int pitch, int frames, int certainty) {
-        for (int i = 0; i < frames; i++) {
-            room.frame(pitch, 20, certainty);
-        }
-        room.frame(pitch, 0, 0);
-    }
-
-    private static void raw(Tuneward room, int... pitches) {
-        for (int pitch : pitches) {
-            room.frame(pitch, 10, 50);
-        }
-    }
-
     private static void newObject() {
         Tuneward room = new Tuneward();
         same("1 notes", room.notes(), 0);
@@ -121,14 +79,6 @@ public final class PromiseTests {
         thrown("2 the first of two", ARGUMENT, () -> room.sample(100));
         room.period();
         same("2 after a period", room.sample(0), 1);
-    }
-
-    private static Tuneward hearing(int... values) {
-        Tuneward room = new Tuneward();
-        for (int value : values) {
-            room.sample(value);
-        }
-        return room;
     }
 
     private static void periods() {
@@ -867,14 +817,6 @@ public final class PromiseTests {
         same("35 changed seats", room.offOf(0), 7);
         same("35 the other too", room.offOf(7), -100);
         same("37 after", room.blend(), 121);
-    }
-
-    private static Tuneward seated(int... offsAndPulls) {
-        Tuneward room = new Tuneward();
-        for (int i = 0; i + 1 < offsAndPulls.length; i += 2) {
-            room.seat(offsAndPulls[i], offsAndPulls[i + 1]);
-        }
-        return room;
     }
 
     private static void choirLimits() {

@@ -10,6 +10,8 @@ import java.util.Arrays;
 import java.util.List;
 import java.util.Set;
 import java.util.TreeSet;
+import java.util.regex.Matcher;
+import java.util.regex.Pattern;
 
 /** The face of the document, and what ../shared/LANGUAGE.md says that can be seen from outside. */
 public final class LanguageTests {
@@ -73,10 +75,32 @@ public final class LanguageTests {
         "double[]", "package ", "static {", "protected", "while", "toString", "hashCode", "@",
     };
 
+    private static final Set<String> LIBRARY = Set.of(
+            "java/lang/Object.<init>()V",
+            "java/lang/System.arraycopy(Ljava/lang/Object;ILjava/lang/Object;II)V",
+            "java/lang/Math.abs(I)I",
+            "java/lang/Math.max(II)I",
+            "java/lang/Math.min(II)I",
+            "java/lang/Math.floorDiv(II)I",
+            "java/lang/ArithmeticException.<init>(Ljava/lang/String;)V",
+            "java/lang/IllegalArgumentException.<init>(Ljava/lang/String;)V",
+            "java/lang/IllegalStateException.<init>(Ljava/lang/String;)V",
+            "java/lang/IndexOutOfBoundsException.<init>(Ljava/lang/String;)V",
+            "java/lang/UnsupportedOperationException.<init>(Ljava/lang/String;)V",
+            "java/util/NoSuchElementException.<init>(Ljava/lang/String;)V");
+    private static final Path DOCUMENT = Path.of("../shared/DOC.md");
+    private static final Pattern CALL = Pattern.compile("(\\w+ \\w+)\\((.*)\\)( throws .*)?");
+
     public static void main(String[] args) throws IOException {
         face();
+        if (Files.exists(DOCUMENT)) {
+            document(Files.readAllLines(DOCUMENT));
+        } else {
+            System.out.println("LanguageTests: no document there; its face isn't looked up");
+        }
         for (Class<?> one : classes()) {
             shapeOf(one);
+            namesOf(one);
         }
         CHECKS.holds("few classes", classes().size() <= MOST_CLASSES);
         source();
@@ -113,6 +137,61 @@ public final class LanguageTests {
         CHECKS.same("a public constructor", made[0].getModifiers(), Modifier.PUBLIC);
         CHECKS.same("without parameters", made[0].getParameterCount(), 0);
         CHECKS.same("the class", Tuneward.class.getModifiers(), Modifier.PUBLIC | Modifier.FINAL);
+    }
+
+    /** The face as it stands in the document, and each promise under its own number. */
+    private static void document(List<String> lines) {
+        List<String> face = new ArrayList<>();
+        List<String> promises = new ArrayList<>();
+        List<String> thrown = new ArrayList<>();
+        String head = "";
+        for (String line : lines) {
+            if (line.startsWith("    public ") && !line.contains("Tuneward")) {
+                face.add(plain(line.substring(11, line.length() - 1)));
+            } else if (line.startsWith("## ")) {
+                head = line;
+            } else if (line.matches("`\\w+ .*`: .*")) {
+                promises.add(plain(line.substring(1, line.indexOf("`: "))));
+                thrown.add("");
+                String name = line.substring(line.indexOf(' ') + 1, line.indexOf('('));
+                CHECKS.same("under its number", head,
+                        "## Promise " + (promises.size() + 1) + ": " + name);
+            } else if (line.startsWith("Throws `")) {
+                int last = thrown.size() - 1;
+                thrown.set(last, thrown.get(last) + " " + line.split("`")[1]);
+            }
+        }
+        List<String> due = Arrays.asList(FACE);
+        CHECKS.same("the face in the document", face, due);
+        CHECKS.same("the face by its promises", promises, due);
+        for (int at = 0; at < Math.min(FACE.length, thrown.size()); at++) {
+            CHECKS.same("thrown, in order, by " + FACE[at], thrown.get(at).replace(" ", ", "),
+                    FACE[at].replaceFirst("^[^)]*\\)( throws)?", "").replaceFirst("^ ", ", "));
+        }
+    }
+
+    /** A method as the document writes it, without the names of its parameters. */
+    private static String plain(String method) {
+        Matcher parts = CALL.matcher(method);
+        if (!parts.matches()) {
+            return method;
+        }
+        String types = parts.group(2).replaceAll("(\\w+) \\w+", "$1");
+        String thrown = parts.group(3) == null ? "" : parts.group(3);
+        return parts.group(1) + "(" + types + ")" + thrown;
+    }
+
+    /** No library but what is listed, and nothing bound at the first call. */
+    private static void namesOf(Class<?> one) throws IOException {
+        Compiled compiled = Compiled.of(one);
+        CHECKS.holds("no lambda, no texts joined by + in " + one, !compiled.bindsCalls);
+        for (String method : compiled.methods) {
+            CHECKS.holds(one + " calls " + method,
+                    method.startsWith("Tuneward") || LIBRARY.contains(method));
+        }
+        for (String field : compiled.fields) {
+            CHECKS.holds(one + " uses " + field, field.startsWith("Tuneward"));
+        }
     }
 
     private static String told(Method method) {

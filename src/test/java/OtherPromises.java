@@ -445,6 +445,10 @@ final class OtherPromises extends Rooms {
         told.same("no song's notes", songless().isTrue(), true);
         // A tune at the upper end costs the same when it is moved, though it could not be.
         told.same("the highest", sing(withSong(0, 2), 9999, 9999).isTrue(), true);
+        told.same("a key found behind the first note",
+                sing(withSong(0, 2, 4, 5), 6100, 6000, 6200, 6400, 6500).isTrue(), true);
+        told.same("a longer note right behind a shorter one", raw(withSong(0, 1), 5000, 5000,
+                5000, 5100, 5100, 5100, 5100, 5100, 5100, 5100).isTrue(), true);
         told.same("the lowest", sing(withSong(24, 0), 0, 0).isTrue(), true);
         told.same("masteries at 99",
                 practise(sing(withSong(0, 2), 6000, 6200), 0, 20).isTrue(), true);

@@ -243,6 +243,9 @@ final class OtherSentences extends Rooms {
         told.same("down is another than up", more.distance(0, 3), 3);
         told.same("nothing alike", more.distance(2, 4), 4);
         told.same("full", full().distance(0, 1), 15);
+        Tuneward pairs = addSong(addSong(withSong(0, 2), 5, 7), 0, 4);
+        told.same("the same step alone", pairs.distance(0, 1), 0);
+        told.same("another step alone", pairs.distance(0, 2), 1);
         told.at("Variants", "The parent of a song");
         told.same("the only one", room.parent(1), 0);
         told.same("of like ones the latest", room.parent(2), 1);

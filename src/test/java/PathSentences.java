@@ -70,6 +70,9 @@ final class PathSentences extends Rooms {
             told.same(row[0] + " above", sing(withSong(0, 2), 6000, 6200 + row[0]).cost(0), row[1]);
             told.same(row[0] + " below", sing(withSong(0, 2), 6000, 6200 - row[0]).cost(0), row[1]);
         }
+        Tuneward two = sing(addSong(withSong(0, 2, 4), 0, 2), 6000, 6200);
+        told.same("the longer song", two.cost(0), 30);
+        told.same("the shorter one behind it", two.cost(1), 0);
         told.same("each cut alone", sing(withSong(0, 2, 4), 6000, 6209, 6409).cost(0), 0);
         told.same("3 for a key", sing(withSong(0, 2, 4), 6000, 6225, 6425).cost(0), 3);
         told.same("3 for each key, up and down",

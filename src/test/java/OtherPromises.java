@@ -447,6 +447,8 @@ final class OtherPromises extends Rooms {
         told.same("the highest", sing(withSong(0, 2), 9999, 9999).isTrue(), true);
         told.same("a key found behind the first note",
                 sing(withSong(0, 2, 4, 5), 6100, 6000, 6200, 6400, 6500).isTrue(), true);
+        told.same("laid on none, where on one it would cost 74",
+                sing(withSong(0, 2), 6000, 6900).isTrue(), true);
         told.same("a longer note right behind a shorter one", raw(withSong(0, 1), 5000, 5000,
                 5000, 5100, 5100, 5100, 5100, 5100, 5100, 5100).isTrue(), true);
         told.same("the lowest", sing(withSong(24, 0), 0, 0).isTrue(), true);
